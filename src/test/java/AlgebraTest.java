@@ -172,6 +172,15 @@ public final class AlgebraTest {
         Check.due("farthest", Check.work(y, "at(a,49,-49)"), 1);
         Check.due("its cell", y.cell(1, 0, 49), 8);
         Check.due("no other", y.size(1, 2), 1);
+        y.wipe(0, 49, 0);
+        y.put(0, 3, 49, 9);
+        Check.due("farthest up", Check.work(y, "at(a,-46,49)"), 2);
+        Check.due("its cell", y.cell(2, 49, 0), 9);
+        Check.due("no other", y.size(2, 2), 1);
+        Check.due("halfway", Check.work(y, "at(a,-20,20)"), 3);
+        Check.due("its cell", y.cell(3, 23, 29), 9);
+        Check.due("beyond", Check.work(y, "at(a,0,50)"), 4);
+        Check.due("all blank", y.size(4, 2), 0);
     }
 
     private static void spaces() {
@@ -183,32 +192,24 @@ public final class AlgebraTest {
         Check.dueText(x, "a <\n= - 3", 2, 1, 0, 1);
     }
 
-    private static String repeat(String part, int times) {
-        StringBuilder text = new StringBuilder();
-        for (int k = 0; k < times; k++) {
-            text.append(part);
-        }
-        return text.toString();
-    }
-
     private static void depth() {
         CellAlgebra x = with(2, 1, 3, 0);
-        Check.dueText(x, repeat("(", 39) + "a" + repeat(")", 39), 2, 1, 3, 0);
-        Check.dueText(x, repeat("-", 39) + "a", 2, 1, -3, 0);
-        Check.dueText(x, repeat("abs(", 39) + "a" + repeat(")", 39), 2, 1, 3, 0);
-        Check.dueText(x, repeat("min(a,", 39) + "a" + repeat(")", 39), 2, 1, 3, 0);
-        Check.dueText(x, repeat("a?1:", 39) + "5", 2, 1, 1, 5);
-        Check.dueText(x, repeat("a?", 39) + "5" + repeat(":9", 39), 2, 1, 5, 9);
-        Check.dueText(x, repeat("at(", 39) + "a" + repeat(",-1,0)", 39), 2, 1, null, null);
-        Check.dueText(x, repeat("(", 39) + "a-1+a-2*a<a-4" + repeat(")", 39), 2, 1, 0, 0);
-        Check.dueText(x, "(a)+(a)-" + repeat("(", 38) + "-a" + repeat(")", 38), 2, 1, 9, 0);
+        Check.dueText(x, "(".repeat(39) + "a" + ")".repeat(39), 2, 1, 3, 0);
+        Check.dueText(x, "-".repeat(39) + "a", 2, 1, -3, 0);
+        Check.dueText(x, "abs(".repeat(39) + "a" + ")".repeat(39), 2, 1, 3, 0);
+        Check.dueText(x, "min(a,".repeat(39) + "a" + ")".repeat(39), 2, 1, 3, 0);
+        Check.dueText(x, "a?1:".repeat(39) + "5", 2, 1, 1, 5);
+        Check.dueText(x, "a?".repeat(39) + "5" + ":9".repeat(39), 2, 1, 5, 9);
+        Check.dueText(x, "at(".repeat(39) + "a" + ",-1,0)".repeat(39), 2, 1, null, null);
+        Check.dueText(x, "(".repeat(39) + "a-1+a-2*a<a-4" + ")".repeat(39), 2, 1, 0, 0);
+        Check.dueText(x, "(a)+(a)-" + "(".repeat(38) + "-a" + ")".repeat(38), 2, 1, 9, 0);
     }
 
     private static void manyWaiting() {
         CellAlgebra x = with(1, 1, 2);
-        String text = repeat("1<3+2*max(0,", 39) + "1<2+a*a" + repeat(")", 39);
+        String text = "1<3+2*max(0,".repeat(39) + "1<2+a*a" + ")".repeat(39);
         Check.dueText(x, text, 1, 1, 1);
-        String chosen = repeat("a?1<3+2*max(0,", 19) + "1<2+a*a" + repeat("):7", 19);
+        String chosen = "a?1<3+2*max(0,".repeat(19) + "1<2+a*a" + "):7".repeat(19);
         Check.dueText(x, chosen, 1, 1, 1);
     }
 
@@ -216,8 +217,8 @@ public final class AlgebraTest {
         CellAlgebra x = new CellAlgebra();
         x.raster(50, 50);
         Check.due("ones", Check.work(x, "or(a,1)"), 1);
-        Check.dueText(x, "b" + repeat("+b", 2400), 50, 50, 2401);
-        Check.dueText(x, "sum(b,3)" + repeat("+low(b,3)", 400), 50, 50, 416);
+        Check.dueText(x, "b" + "+b".repeat(2400), 50, 50, 2401);
+        Check.dueText(x, "sum(b,3)" + "+low(b,3)".repeat(400), 50, 50, 416);
     }
 
     private static void letters() {

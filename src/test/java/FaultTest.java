@@ -47,7 +47,7 @@ public final class FaultTest {
     }
 
     private static void words() {
-        faults("k", 0, "z", 0, "a+k", 2, "ab", 0, "a+ab", 2, "mi", 0, "min", 0, "a+min", 2,
+        faults("k", 0, "z", 0, "az", 0, "aa", 0, "a+k", 2, "ab", 0, "a+ab", 2, "mi", 0, "min", 0, "a+min", 2,
                 "min a", 0, "  min a", 2, "minn(a,b)", 0, "mina(a,b)", 0, "amin(a,b)", 0,
                 "mi n(a,b)", 0, "a min(a,b)", 2, "sum", 0, "sum  ", 0, "at+1", 0, "or", 0,
                 "blank", 0, "blan(a)", 0, "blanks(a)", 0, "blank)", 0, "abs-a", 0, "o(a)", 0,
@@ -94,22 +94,14 @@ public final class FaultTest {
         Check.dueFault(y, "a+c", 2);
     }
 
-    private static String repeat(String part, int times) {
-        StringBuilder text = new StringBuilder();
-        for (int k = 0; k < times; k++) {
-            text.append(part);
-        }
-        return text.toString();
-    }
-
     private static void depth() {
-        faults(repeat("(", 40), 39, repeat("(", 39), 39, repeat("-", 40) + "a", 39,
-                repeat("abs(", 40), 159, repeat("abs(", 39) + "abs", 156,
-                repeat("abs(", 39) + "abs  (", 161, repeat("min(a,", 40), 237,
-                repeat("a?", 40), 79, repeat("a?1:", 40), 157, repeat("-(", 20), 39,
-                repeat("-(", 19) + "-a?", 41, repeat("(", 39) + "a?", 40,
-                repeat("(", 39) + "-a", 39, repeat("(", 39) + "a--a", 41,
-                repeat("(", 38) + "sum((a", 42, repeat("(", 400), 39);
+        faults("(".repeat(40), 39, "(".repeat(39), 39, "-".repeat(40) + "a", 39,
+                "abs(".repeat(40), 159, "abs(".repeat(39) + "abs", 156,
+                "abs(".repeat(39) + "abs  (", 161, "min(a,".repeat(40), 237,
+                "a?".repeat(40), 79, "a?1:".repeat(40), 157, "-(".repeat(20), 39,
+                "-(".repeat(19) + "-a?", 41, "(".repeat(39) + "a?", 40,
+                "(".repeat(39) + "-a", 39, "(".repeat(39) + "a--a", 41,
+                "(".repeat(38) + "sum((a", 42, "(".repeat(400), 39);
     }
 
     private static void latest() {

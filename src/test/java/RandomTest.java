@@ -42,7 +42,8 @@ public final class RandomTest {
         Check.raster(x, w, h, b);
         TextMaker maker = new TextMaker(random, w, h, a, b);
         TextMaker.Part part = maker.expression(4);
-        if (maker.text().matches("(?s).*(?<![a-z])[ab](?![a-z]).*") && maker.text().length() < 8000) {
+        boolean namesOne = maker.text().matches("(?s).*(?<![a-z])[ab](?![a-z]).*");
+        if (namesOne && maker.text().length() < 8000) {
             Integer[] cells = new Integer[w * h];
             for (int k = 0; k < w * h; k++) {
                 cells[k] = part.at(k % w, k / w);
@@ -102,16 +103,17 @@ public final class RandomTest {
     }
 
     private static void spreading(Random random) {
-        int w = 1 + random.nextInt(9);
-        int h = 1 + random.nextInt(9);
+        int most = random.nextInt(10) == 0 ? 50 : 9;
+        int w = 1 + random.nextInt(most);
+        int h = 1 + random.nextInt(most);
         Integer[] costs = new Integer[w * h];
         Integer[] seeds = new Integer[w * h];
         int bars = random.nextInt(6);
-        int most = random.nextBoolean() ? 1000 : 3;
+        int dearest = random.nextBoolean() ? 1000 : 3;
         for (int k = 0; k < w * h; k++) {
             boolean bar = random.nextInt(10) < bars;
             Integer barred = new Integer[] {null, -1, 1001, Integer.MIN_VALUE}[random.nextInt(4)];
-            costs[k] = bar ? barred : Integer.valueOf(random.nextInt(most + 1));
+            costs[k] = bar ? barred : Integer.valueOf(random.nextInt(dearest + 1));
             seeds[k] = random.nextInt(w * h) < 2 ? Integer.valueOf(random.nextInt()) : null;
         }
         CellAlgebra x = new CellAlgebra();
@@ -135,13 +137,14 @@ public final class RandomTest {
         while (better) {
             better = false;
             for (int from = 0; from < w * h; from++) {
-                for (int to = 0; to < w * h; to++) {
-                    int dx = Math.abs(from % w - to % w);
-                    int dy = Math.abs(from / w - to / w);
-                    if (Math.max(dx, dy) != 1 || sums[from] == null || !isOpen(costs[to])) {
+                for (int turn = 0; turn < 9 && sums[from] != null; turn++) {
+                    int x = from % w + turn % 3 - 1;
+                    int y = from / w + turn / 3 - 1;
+                    int to = y * w + x;
+                    if (x < 0 || x >= w || y < 0 || y >= h || !isOpen(costs[to])) {
                         continue;
                     }
-                    int sum = sums[from] + (costs[from] + costs[to]) * (dx + dy == 2 ? 7 : 5);
+                    int sum = sums[from] + (costs[from] + costs[to]) * (turn % 2 == 0 ? 7 : 5);
                     if (sums[to] == null || sum < sums[to]) {
                         sums[to] = sum;
                         better = true;

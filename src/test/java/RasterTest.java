@@ -64,6 +64,7 @@ public final class RasterTest {
         for (int k = 0; k < 6; k++) {
             Check.due("cell " + k, x.cell(0, k % 3, k / 3), 10 + k);
         }
+        Check.due("size(0, 2)", x.size(0, 2), 6);
         Check.due("cell(0, 2, 1)", x.cell(0, 2, 1), 15);
         Check.due("cell(0, 1, 2)", x.cell(0, 1, 2), Check.NO_CELL);
     }

@@ -78,7 +78,7 @@ final class TextMaker {
         int kind = depth <= 0 ? random.nextInt(2) : random.nextInt(13);
         switch (kind) {
             case 0:
-                int number = random.nextInt(3) == 0 ? random.nextInt(1000000000) : random.nextInt(4);
+                int number = random.nextInt(random.nextInt(3) == 0 ? 1000000000 : 4);
                 text.append(number);
                 return (i, j) -> number;
             case 1:
