@@ -205,12 +205,13 @@ public final class AlgebraTest {
         Check.dueText(x, "(a)+(a)-" + "(".repeat(38) + "-a" + ")".repeat(38), 2, 1, 9, 0);
     }
 
+    // Each "2<1+2*max(0,x)" is x where x is 0 or 1, with four values waiting for x.
     private static void manyWaiting() {
-        CellAlgebra x = with(1, 1, 2);
-        String text = "1<3+2*max(0,".repeat(39) + "1<2+a*a" + ")".repeat(39);
-        Check.dueText(x, text, 1, 1, 1);
-        String chosen = "a?1<3+2*max(0,".repeat(19) + "1<2+a*a" + "):7".repeat(19);
-        Check.dueText(x, chosen, 1, 1, 1);
+        CellAlgebra x = with(3, 1, 1, 2, null);
+        String text = "2<1+2*max(0,".repeat(39) + "1<3-a*a" + ")".repeat(39);
+        Check.dueText(x, text, 3, 1, 1, 0, null);
+        String chosen = "a?2<1+2*max(0,".repeat(19) + "1<3-a*a" + "):7".repeat(19);
+        Check.dueText(x, chosen, 3, 1, 1, 0, null);
     }
 
     private static void longText() {
