@@ -5,14 +5,20 @@ final class Check {
     static final long BLANK = 3000000000L;
     static final long NO_CELL = 4000000000L;
     private static int wrong = 0;
+    private static String sentence = "";
 
     private Check() {
+    }
+
+    /** The words of the document that the answers from here on are due by. */
+    static void sentence(String words) {
+        sentence = "[" + words + "] ";
     }
 
     static void due(String what, long got, long want) {
         if (got != want) {
             wrong++;
-            System.out.println(what + " answered " + got + ", due is " + want);
+            System.out.println(sentence + what + " answered " + got + ", due is " + want);
         }
     }
 
@@ -67,6 +73,24 @@ final class Check {
             long want = cells[k] == null ? BLANK : cells[k];
             due(what + ": cell " + k % w + " " + k / w, x.cell(r, k % w, k / w), want);
         }
+    }
+
+    /** All that can be seen of an object without changing it, but for the tray. */
+    static String seen(CellAlgebra x) {
+        StringBuilder all = new StringBuilder("place " + x.place());
+        for (int r = 0; r < x.rasters(); r++) {
+            all.append("; raster ").append(r).append(':');
+            for (int k = 0; k < x.size(r, 0) * x.size(r, 1); k++) {
+                all.append(' ').append(x.cell(r, k % x.size(r, 0), k / x.size(r, 0)));
+            }
+        }
+        return all.toString();
+    }
+
+    /** Nothing that can be seen has changed. */
+    static void dueSame(String what, CellAlgebra x, String before) {
+        String now = seen(x);
+        due(what + " changed '" + before + "' to '" + now + "'", now.equals(before), true);
     }
 
     /** The text makes a raster with just these cells. */

@@ -4,8 +4,6 @@ public final class TrayTest {
         byteOrder();
         cutting();
         usedUp();
-        trayIsFull();
-        allIsFed();
         Check.finish();
     }
 
@@ -64,33 +62,5 @@ public final class TrayTest {
         Check.due("place", x.place(), 2);
         Check.due("end(1) behind a fault", x.end(1), false);
         Check.due("feed", feedBlanks(x), 20);
-    }
-
-    // More calls than are promised: the limits cannot be reached in 512.
-    private static void trayIsFull() {
-        CellAlgebra x = new CellAlgebra();
-        Check.raster(x, 1, 1, 5);
-        for (int k = 1; k <= 800; k++) {
-            Check.due("feed " + k, feedBlanks(x), 20 * k);
-        }
-        Check.due("feed 801", feedBlanks(x), -1);
-        Check.due("end(16001)", x.end(16001), false);
-        Check.due("end(15981)", x.end(15981), true);
-        Check.due("19 left", feedBlanks(x), -1);
-        Check.due("end(15980)", x.end(15980), true);
-        Check.due("20 left", x.feed(0x61000000, 0, 0, 0, 0), 16000);
-        Check.due("end(15981)", x.end(15981), true);
-        Check.due("algebra", x.algebra(), 1);
-        Check.due("cell", x.cell(1, 0, 0), 5);
-    }
-
-    private static void allIsFed() {
-        CellAlgebra x = new CellAlgebra();
-        for (int k = 1; k <= 3276; k++) {
-            Check.due("feed " + k, feedBlanks(x), 20);
-            x.end(0);
-        }
-        Check.due("feed 3277", feedBlanks(x), -1);
-        Check.due("end(1)", x.end(1), false);
     }
 }
