@@ -427,6 +427,7 @@ public final class AlgebraBoundaryTest {
         Check.dueText(x, "a-(".repeat(39) + "a" + ")".repeat(39), 3, 1, 0, 0, null);
         Check.dueText(x, "a=2?5:".repeat(39) + "6", 3, 1, 6, 5, null);
         Check.dueText(x, "or(".repeat(39) + "a" + ",9)".repeat(39), 3, 1, 1, 2, 9);
+        Check.dueText(x, waiting, 3, 1, 1, 0, null);
     }
 
     private static void resultHasTheRastersSize() {
