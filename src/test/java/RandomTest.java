@@ -18,6 +18,9 @@ public final class RandomTest {
         for (int k = 0; k < 300; k++) {
             spreading(random);
         }
+        for (int k = 0; k < 200; k++) {
+            openSpreading(random);
+        }
         Check.finish();
     }
 
@@ -116,6 +119,28 @@ public final class RandomTest {
             costs[k] = bar ? barred : Integer.valueOf(random.nextInt(dearest + 1));
             seeds[k] = random.nextInt(w * h) < 2 ? Integer.valueOf(random.nextInt()) : null;
         }
+        dueSums(w, h, costs, seeds);
+    }
+
+    // Without bars every cell is gone on from, so that one in a wrong order leaves none to spare.
+    private static void openSpreading(Random random) {
+        int w = 1 + random.nextInt(50);
+        int h = 1 + random.nextInt(50);
+        Integer[] costs = new Integer[w * h];
+        Integer[] seeds = new Integer[w * h];
+        int kind = random.nextInt(4);
+        for (int k = 0; k < w * h; k++) {
+            int rarelyDear = random.nextInt(3) == 0 ? 1000 : random.nextInt(3);
+            costs[k] = kind == 0 ? random.nextInt(1001) : kind == 1 ? rarelyDear
+                    : kind == 2 ? k % w * 20 : 1000 - k * 37 % 1000;
+        }
+        seeds[random.nextInt(w * h)] = 1;
+        seeds[random.nextInt(w * h)] = 1;
+        dueSums(w, h, costs, seeds);
+    }
+
+    // The largest rasters take more calls to fill and to look at than an object is promised for.
+    private static void dueSums(int w, int h, Integer[] costs, Integer[] seeds) {
         CellAlgebra x = new CellAlgebra();
         Check.raster(x, w, h, costs);
         Check.raster(x, w, h, seeds);
